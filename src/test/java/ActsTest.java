@@ -172,6 +172,10 @@ public final class ActsTest {
                 }
             }
         }
+        x = 1;
+        int first = draw(1000);
+        c.due("as low as mortal: he lives", Check.of("days 9;person a mind 1 asks 1;mortal " + first + ";").chance(1), 0);
+        c.due("below mortal: he dies", Check.of("days 9;person a mind 1 asks 1;mortal " + (first + 1) + ";").chance(1), 1);
         ForgottenFeast f = Check.of(town + "mortal 500;");
         for (int n : new int[] {0, -1, 101, Integer.MAX_VALUE}) {
             c.due("chance(" + n + ")", f.chance(n), -1);

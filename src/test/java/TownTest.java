@@ -257,6 +257,44 @@ public final class TownTest {
         c.due("status(1)", x.status(1), 1);
         c.due("the image stays", x.octet(2), 3);
         theSeedStays(c);
+        nothingIsLeft(c);
+    }
+
+    /** A town read behind two full ones has nothing of theirs. */
+    private static void nothingIsLeft(Check c) {
+        StringBuilder full = new StringBuilder("days 90;thinks all;hears not all;slips 100;mortal 1000;");
+        full.append("frost 1 for 30;frost 31 for 30;frost 61 for 30;frost 90 for 1;");
+        for (int i = 0; i < 8; i++) {
+            full.append("person ").append((char) ('a' + i)).append(" mind 5 asks 5;");
+        }
+        for (int i = 0; i < 20; i++) {
+            full.append("reminds ").append((char) ('a' + i % 8)).append(" ")
+                .append((char) ('a' + (i + 1 + i / 8) % 8)).append(";");
+        }
+        for (int i = 0; i < 30; i++) {
+            full.append("told ").append((char) ('a' + i % 8)).append(" on ").append(i / 8 + 1).append(";");
+        }
+        ForgottenFeast x = new ForgottenFeast();
+        c.fault(x, full.toString(), 0, -1);
+        x.chance(100);
+        c.fault(x, full.toString(), 0, -1);
+        x.chance(100);
+        c.fault(x, full.toString(), 0, -1);
+        c.fault(x, TWO + "told a on 2;reminds a b;frost 9 for 1;", 0, -1);
+        int[] has = {9, 2, 2, 1, 0, 0, 1, 0, 0, 0, 0, 0};
+        for (int what = 0; what < has.length; what++) {
+            c.due("has(" + what + ")", x.has(what), has[what]);
+        }
+        c.due("person(0, 5)", x.person(0, 5), 0);
+        c.due("person(1, 5)", x.person(1, 5), 1);
+        c.due("person(0, 2)", x.person(0, 2), 0);
+        c.due("day(1, 2)", x.day(1, 2), 0);
+        c.due("without thinks", x.later(1, 0), 0);
+        c.due("without hears", x.later(2, 1), 3);
+        c.due("without slips", x.slips(2), 0);
+        c.due("without mortal", x.chance(1), 0);
+        c.due("has(3)", x.has(3), 1);
+        c.fault(x, full.toString(), 0, -1);
     }
 
     private static void theSeedStays(Check c) {
