@@ -44,6 +44,7 @@ public final class EdgesAheadTest {
         t.turnsZeroToTwo();
         t.turnsOneAndTwo();
         t.turnsByTheBest();
+        t.turnsNotToldSoFar();
         t.turnsOfTheLastByNumber();
         t.turnsAsIfNobody();
         t.turnsOfWhoHasNoneLeft();
@@ -567,6 +568,15 @@ public final class EdgesAheadTest {
         x = Check.of(Texts.town(5, 3) + "thinks told=0;");
         c.due("of three one is told off, another bribed", x.turnsOf(1), 1);
         c.due("the third one is bribed", x.turnsOf(2), 0);
+    }
+
+    /** "(not told so far)": while there is one left, he who tells off has to, though it would be better not to. */
+    private void turnsNotToldSoFar() {
+        ForgottenFeast x = Check.of(Texts.town(5, 3) + "thinks mind=1 or told=0;");
+        c.due("a or b or c, one told off, one bribed", x.turnsOf(1), 1);
+        c.due("a is told off and bribed, then b or c told off, the other bribed", x.turnsOf(2), 0);
+        x = Check.of(Texts.town(5, 4) + "thinks mind=1 or mind<4 and told=0;");
+        c.due("d can be told off in their place", x.turnsOf(2), 1);
     }
 
     private void turnsOfTheLastByNumber() {

@@ -477,6 +477,10 @@ public final class EdgesOfTownsTest {
         bad(1, "days 5;person @12345 mind 1 asks 1;");
         bad(1, "days 5;slips 1 @2;");
         bad(1, "days 5;slips 1@,;");
+        bad(1, "days 5;thinks min@=1;");
+        bad(1, "days 5;thinks max @5=1;");
+        bad(1, "days 5;thinks min@[1,2]=1;");
+        bad(1, "days 5;thinks(1@,2)=1;");
     }
 
     /** "where a NAME is asked, an OWN WORD so": at its first byte, the one of seven letters, too. */
@@ -585,6 +589,12 @@ public final class EdgesOfTownsTest {
         good("days 5;thinks min(1,(((((1))))))=max((((((1))))),1);");
         good("days 5;thinks all;hears not not not not not not all;");
         good("days 5;thinks[[[[[not all]]]]]and[[[[[not all]]]]];");
+        // what a text with a FAULT left open is not open in the next one
+        ForgottenFeast x = new ForgottenFeast();
+        c.fault(x, "days 5;thinks[[[[[[#", 1, 19);
+        c.fault(x, "days 5;thinks[[[[[[all]]]]]];", 0, Check.NONE);
+        c.askFault(x, "first[[[[[[[", 4, 11);
+        c.askFault(x, "first[[[[[[all]]]]]]", 0, Check.NONE);
     }
 
     /** "5 one too many of a kind (a second thinks, hears, too) ..., at its first byte": whatever is behind it. */

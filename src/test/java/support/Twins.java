@@ -98,12 +98,15 @@ final class Twins {
         for (int i = 0; i <= 20; i++) {
             x.image();
             all.add((long) x.octet(x.image() - 1));
-            all.add((long) x.has(8));
+            all.add((long) x.has(9));
             all.add(x.undo() ? 1L : 0L);
         }
+        // blanks behind a text change nothing in it
+        all.add((long) x.feed(0x20202020, 0x20202020, 0x20202020, 0x20202020, 0x20202020));
         all.add((long) x.town());
         all.add((long) x.has(0));
-        all.add((long) x.feed(0, 0, 0, 0, 0));
+        all.add((long) x.has(1));
+        all.add((long) x.fault(1));
     }
 
     private static void image(ForgottenFeast x, List<Long> all) {
