@@ -1,4 +1,7 @@
+import java.util.ArrayList;
 import java.util.Arrays;
+import java.util.Collections;
+import java.util.List;
 import java.util.Random;
 
 /** Runs of calls by a fixed seed, each answer compared with that of Model. */
@@ -144,6 +147,8 @@ public final class ModelTest {
             image();
         } else if (which < 88) {
             town(goodTown());
+        } else if (which < 91) {
+            town(r.nextInt(4) > 0 ? fullTown() : spoilt(fullTown()));
         } else if (which < 96) {
             town(spoilt(goodTown()));
         } else {
@@ -196,6 +201,9 @@ public final class ModelTest {
         boolean test = r.nextBoolean();
         String text = test ? new String[] {"first ", "last ", "often "}[r.nextInt(3)] + test(2, QUESTION)
             : new String[] {"total ", "most ", "least "}[r.nextInt(3)] + sum(2, QUESTION);
+        if (r.nextInt(5) == 0) {
+            text = test ? "often " + deepFact(5 + r.nextInt(3), QUESTION) : "total " + deepPart(5 + r.nextInt(3), QUESTION);
+        }
         if (r.nextInt(4) == 0) {
             text = spoilt(text);
         }
@@ -351,6 +359,78 @@ public final class ModelTest {
             t.append(blank() + "hears " + test(3, HEARS) + ";");
         }
         return t + blank();
+    }
+
+    /** With as many of a kind, or as many open at once, as there is room for, or one less, or one too many. */
+    private String fullTown() {
+        int most = r.nextInt(3) - 1;
+        List<String> statements = new ArrayList<>();
+        switch (r.nextInt(6)) {
+            case 0: addTold(statements, 30 + most); break;
+            case 1: addReminds(statements, 20 + most); break;
+            case 2: addTimes(statements, "frost 1 for 2;", 4 + most); break;
+            case 3: addTimes(statements, "slips 7;", 61 + most); break;
+            case 4: addTimes(statements, "thinks " + test(2, THINKS) + ";", 1 + most); break;
+            default: addTimes(statements, "hears " + test(2, HEARS) + ";", 1 + most); break;
+        }
+        if (r.nextBoolean()) {
+            statements.add("thinks " + deepFact(6 + r.nextInt(2), THINKS) + ";");
+            statements.add("hears " + deepFact(5, HEARS) + " or " + deepFact(6 + r.nextInt(2), HEARS) + ";");
+        }
+        Collections.shuffle(statements, r);
+        int people = r.nextInt(4) == 0 ? 9 : 8;
+        StringBuilder t = new StringBuilder("days " + (5 + r.nextInt(20)) + ";");
+        for (int p = 0; p < people; p++) {
+            t.append("person " + NAMES[p] + " mind " + (1 + p % 4) + " asks " + p + ";");
+        }
+        for (String s : statements) {
+            t.append(s);
+        }
+        return t.toString();
+    }
+
+    private static void addTimes(List<String> to, String statement, int times) {
+        for (int i = 0; i < times; i++) {
+            to.add(statement);
+        }
+    }
+
+    private static void addTold(List<String> to, int times) {
+        for (int i = 0; i < times; i++) {
+            to.add("told " + NAMES[i % 8] + " on " + (1 + i / 8) + ";");
+        }
+    }
+
+    private static void addReminds(List<String> to, int times) {
+        for (int i = 0; i < times; i++) {
+            to.add("reminds " + NAMES[i % 8] + " " + NAMES[(i + 1 + i / 8) % 8] + ";");
+        }
+    }
+
+    /** A FACT with just so many open at once. */
+    private String deepFact(int opened, String[] parts) {
+        if (opened == 0) {
+            return r.nextBoolean() ? "all" : "day<9";
+        }
+        switch (r.nextInt(4)) {
+            case 0: return "not " + deepFact(opened - 1, parts);
+            case 1: return "[" + deepFact(opened - 1, parts) + blank() + " and not not all]";
+            case 2: return deepPart(opened, parts) + "<2";
+            default: return "not [" + deepFact(Math.max(0, opened - 2), parts) + "]";
+        }
+    }
+
+    /** A PART with just so many open at once. */
+    private String deepPart(int opened, String[] parts) {
+        if (opened == 0) {
+            return parts[r.nextInt(parts.length)];
+        }
+        switch (r.nextInt(parts == QUESTION ? 5 : 3)) {
+            case 0: return "(1+" + deepPart(opened - 1, parts) + "*2)";
+            case 1: return "min(" + deepPart(opened - 1, parts) + ",(3))";
+            case 2: return "max" + blank() + "((1)," + deepPart(opened - 1, parts) + ")";
+            default: return "knows " + deepPart(opened - 1, parts);
+        }
     }
 
     private static final String[] BITS = {" ", "\n", ";", "(", ")", "[", "]", "not ", "not not not not ", "((((", "[[[", "7",
